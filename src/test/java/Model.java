@@ -64,6 +64,8 @@ final class Model {
     // ---- the language
 
     static final class Fault extends Exception {
+        private static final long serialVersionUID = 1;
+
         final int code;
 
         Fault(int kind, int place) {
