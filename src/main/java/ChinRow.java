@@ -495,7 +495,8 @@ public final class ChinRow {
             int won = ours * chance * wins[ourHold - 1]
                 + ours * (TEN - chance) * wins[ourHold]
                 + (TEN - ours) * chance * wins[here - 1];
-            int win = won / (TEN * TEN - (TEN - ours) * (TEN - chance));
+            int either = TEN * TEN - (TEN - ours) * (TEN - chance);
+            int win = either > 0 ? won / either : 0;
             if (win > wins[here]) {
                 wins[here] = win;
                 bestPace = pace;

@@ -129,8 +129,8 @@ public final class FuzzTest {
     }
 
     private void hurry() {
-        int ours = pick(5);
-        int theirs = pick(6);
+        int ours = pick(8);
+        int theirs = pick(11);
         int chance = pick(11);
         for (int i = 0; i < 2; i++) {
             due("hurry(" + ours + ", " + theirs + ", " + chance + ", " + (i == 1) + ")",

@@ -8,6 +8,7 @@ public final class GameTest {
         boughtCut();
         hurry();
         hurryPace();
+        hurryFar();
         hurryWrong();
         laughs();
         outer();
@@ -113,6 +114,17 @@ public final class GameTest {
         ChinRow fruit = CHECK.told(THREE + "fruit p size 1 slip 1; fruit q size 1 slip 5; hold slip;");
         fruit.fruit(1);
         dueHurry(fruit, 1, 1, 5, 500000, 0);
+    }
+
+    private static void hurryFar() {
+        ChinRow row = CHECK.told("man a plain tall 1 neck 1; man b plain tall 1 neck 1; man c plain tall 1 neck 1; man d plain tall 1 neck 1; "
+            + "man e plain tall 1 neck 1; man f plain tall 1 neck 1; man g plain tall 1 neck 1; hold 10 - pace;");
+        for (int ours = 1; ours <= 6; ours++) {
+            for (int theirs = 1; theirs <= 9; theirs++) {
+                dueHurry(row, ours, theirs, 10, ours < theirs ? 1000000 : ours == theirs ? 500000 : 0, 0);
+            }
+        }
+        dueHurry(row, 7, 9, 10, -1, -1);
     }
 
     private static void hurryWrong() {

@@ -661,7 +661,15 @@ final class Model {
         return (int) through;
     }
 
+    private final Map<List<Integer>, long[]> wins = new HashMap<>();
+
     long[] win(int ours, int theirs, int chance) { // win, pace
+        List<Integer> key = List.of(ours, theirs, chance);
+        if (!wins.containsKey(key)) wins.put(key, winAnew(ours, theirs, chance));
+        return wins.get(key);
+    }
+
+    private long[] winAnew(int ours, int theirs, int chance) {
         if (ours == 0) return new long[] {theirs == 0 ? 500000 : 1000000, NONE};
         if (theirs == 0) return new long[] {0, NONE};
         List<Integer> row = row();
@@ -681,6 +689,7 @@ final class Model {
 
     int hurry(int ours, int theirs, int chance, boolean pace) {
         if (ours < 1 || ours > row().size() - 1 || theirs < 1 || theirs > 9 || chance < 1 || chance > 10) return NONE;
+        wins.clear();
         return (int) win(ours, theirs, chance)[pace ? 1 : 0];
     }
 

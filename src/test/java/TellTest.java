@@ -21,6 +21,7 @@ public final class TellTest {
         nesting();
         stays();
         anew();
+        againAndAgain();
         person();
         count();
         CHECK.end();
@@ -112,6 +113,7 @@ public final class TellTest {
         read("man aa plain tall 1 neck 1 ^2", 1);
         read("man aa plain ^neck 1", 1);
         read("fruit ff size ^10", 4);
+        read("fruit ff size 9 slip ^10", 4);
         read("fruit ff size 9 slip ^9999", 4);
         read("fruit ff size 9 slip 9;", 0);
         read("fruit ff ^slip 9", 1);
@@ -283,6 +285,23 @@ public final class TellTest {
         CHECK.due("the fruit", row.count(3), 0);
         CHECK.due("party of nothing", row.party(), 0);
         CHECK.due("nobody is there", row.count(0) + row.count(1) + row.count(2), 0);
+    }
+
+    private static void againAndAgain() {
+        ChinRow row = new ChinRow();
+        StringBuilder law = new StringBuilder("0");
+        for (int i = 0; i < 150; i++) law.append("+0");
+        for (int i = 0; i < 20; i++) {
+            String text = TWO + "hold " + law + "+" + i % 10 + "; time " + law + "+" + (i + 1) + ";";
+            CHECK.due("party of long laws", Check.tell(row, text), 0);
+            CHECK.due("seconds by a long law", row.seconds(1, 0, 0), i + 1);
+            CHECK.due("chance by a long law", row.chance(1, 0, 0), Math.max(0, i % 10 - 1));
+        }
+        StringBuilder full = new StringBuilder("man a plain tall 0 neck 0;man b plain tall 0 neck 0;time 7");
+        while (full.length() < 996) full.append("+1-1");
+        while (full.length() < 999) full.append(' ');
+        row = CHECK.told(full.append(';').toString());
+        CHECK.due("seconds by a law that fills the tape", row.seconds(0, 1, 0), 7);
     }
 
     private static void person() {
