@@ -54,6 +54,24 @@ final class Check {
         return text.toString();
     }
 
+    int asked() {
+        return asked;
+    }
+
+    int wrong() {
+        return wrong;
+    }
+
+    /** Reads a text to a new object; a caret stands before the faulty token, kind 0 has none. */
+    void read(String marked, int kind) {
+        read(new ChinRow(), marked, kind);
+    }
+
+    void read(ChinRow row, String marked, int kind) {
+        int place = marked.indexOf('^');
+        due("party of '" + marked + "'", tell(row, place < 0 ? marked : marked.substring(0, place) + marked.substring(place + 1)), kind == 0 ? 0 : kind + 16 * place);
+    }
+
     void dueRow(String after, ChinRow row, String want) {
         String got = rowOf(row);
         due("the row after " + after + " is " + got + " for " + want, got.equals(want), true);

@@ -27,11 +27,8 @@ public final class TellTest {
         CHECK.end();
     }
 
-    /** A caret stands before the faulty token; kind 0 has none. */
     private static void read(String marked, int kind) {
-        int place = marked.indexOf('^');
-        String text = marked.replace("^", "");
-        CHECK.due("party of '" + marked + "'", Check.tell(new ChinRow(), text), kind == 0 ? 0 : kind + 16 * place);
+        CHECK.read(marked, kind);
     }
 
     private static void newObject() {
