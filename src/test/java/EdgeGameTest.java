@@ -169,6 +169,13 @@ public final class EdgeGameTest {
         dueHurry(check, row, 1, 1, 5, 500000, 3);
         dueHurry(check, row, 2, 1, 5, 166666, 1);
         dueHurry(check, row, 2, 2, 5, 499999, 1);
+        ChinRow faster = check.told(TWO + "hold 1 + (3 < pace) * 9;"); // no pace is above 3
+        dueHurry(check, faster, 1, 1, 1, 500000, 0);
+        ChinRow fifth = check.told(seven() + "hold 5 + (neck = 1) * 5;");
+        fifth.change(1, 5); // who takes the fifth PASS holds it for sure
+        fifth.bought(20);
+        fifth.evening(1, 0);
+        dueHurry(check, fifth, 1, 1, 5, 500000, 0);
     }
 
     private static void cutAtEach(Check check) {

@@ -239,6 +239,8 @@ public final class EdgeHandTest {
         check.due("fruit(2), it is so", row.fruit(2), false);
         check.due("the fruit", row.count(3), 2);
         check.due("can be undone", row.count(9), 1);
+        check.due("fruit(0) again", row.fruit(0), true);
+        check.due("the fruit", row.count(3), 0);
         row = check.told("man a plain tall 1 neck 1;");
         check.due("fruit(0) without any", row.fruit(0), false);
         check.due("fruit(-1) without any", row.fruit(-1), false);
@@ -256,6 +258,8 @@ public final class EdgeHandTest {
         check.due("pace(3), it is so", row.pace(3), false);
         check.due("the pace", row.count(4), 3);
         check.due("can be undone", row.count(9), 1);
+        check.due("pace(0) again", row.pace(0), true);
+        check.due("the pace", row.count(4), 0);
     }
 
     private static void lastTwenty(Check check) {

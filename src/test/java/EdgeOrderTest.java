@@ -51,6 +51,9 @@ public final class EdgeOrderTest {
         row.out(5, false);
         check.due("orders of two", row.orders(), 2);
         dueLeast(check, "two in the row", row, 12, 1, 3, 5); // (90 + 6) / 8
+        row.out(3, true);
+        row.out(5, true);
+        dueLeast(check, "nobody in the row again", row, 0, 1);
     }
 
     private static void pairs(Check check) {
@@ -189,6 +192,24 @@ public final class EdgeOrderTest {
         dueLeast(check, "he quarrels with a", check.told(hard + "quarrel b a;"), 20, 1, 1, 2, 0);
         check.due("he quarrels with both", check.told(hard + "quarrel b a; quarrel b c;").least(0), -1);
         check.due("two who can't", check.told(hard + "man d plain tall 0 neck 0;").least(0), -1);
+        // To b nothing comes, and straight from b to c hardly anything, or nothing: only b a c has a MEAN to speak of.
+        for (int less : new int[] {9, 10}) {
+            for (String law : new String[] {"", "fall front;"}) {
+                ChinRow middle = check.told("man a plain tall 10 neck 9; man b plain tall 0 neck 0; man c plain tall 20 neck 9; "
+                    + "hold (0 < neck) * (10 - (15 < step) * " + less + ");" + law);
+                dueLeast(check, "by the middle", middle, 18, 1, 1, 0, 2);
+            }
+        }
+        ChinRow row = check.told(people("mwm") + "fruit p size 0 slip 0; fruit q size 9 slip 0; hold 10 - pace * 5 - size; time 1; pick 0;");
+        dueLeast(check, "pace 0", row, 2, 1, 0, 1, 2);
+        row.pace(2);
+        dueLeast(check, "pace 2", row);
+        row.pace(1);
+        dueLeast(check, "pace 1", row, 4, 1, 0, 1, 2);
+        row.fruit(1);
+        dueLeast(check, "pace 1 with q", row);
+        row.pace(0);
+        dueLeast(check, "pace 0 with q", row, 20, 1, 0, 1, 2);
     }
 
     private static void howMany(Check check) {

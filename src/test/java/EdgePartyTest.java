@@ -227,7 +227,9 @@ public final class EdgePartyTest {
                 check.read(one + "; " + (again ? "^" : "") + other + ";", again ? 3 : 0);
             }
         }
-        check.read(String.join(";", "fall front", "hold 1", "time 1", "laugh 1", "pick 1", "turns;"), 0);
+        String all = String.join(";", "fall front", "hold 1", "time 1", "laugh 1", "pick 1", "turns;");
+        check.read(all, 0);
+        for (String one : ONCE) check.read(all + "^" + one + ";", 3);
     }
 
     private static void pick(Check check) {
@@ -581,7 +583,20 @@ public final class EdgePartyTest {
         check.read(fruits(4) + people(7) + "^fruit 1", 5);
     }
 
+    // A law that is broken off must leave nothing behind for those that are read later.
+    private static void lawsBrokenOff(Check check) {
+        ChinRow row = new ChinRow();
+        for (int i = 0; i < 20; i++) {
+            check.read(row, "time not not not not not ^1", 5);
+            check.read(row, "time 1 + (2 * (3 < not (^boy", 1);
+            check.read(row, "time 1 or 2 < 3 + 4 * not^", 1);
+            check.read(row, TWO + "time ((((7)))) + not not not not 3;", 0);
+            check.due("seconds", row.seconds(0, 1, 0), 8);
+        }
+    }
+
     private static void withinOthers(Check check) {
+        lawsBrokenOff(check);
         for (String part : new String[] {"1", "step", "neck", "not", "(", "9999"}) {
             check.read("laugh not not not not not ^" + part, 5);
             check.read("laugh (((((^" + part, 5);
@@ -608,6 +623,20 @@ public final class EdgePartyTest {
         check.due("laughs", row.laughs(0), 3);
         check.due("orders", row.orders(), 2);
         check.due("even", row.even(0), 3);
+        // Nothing of any party before comes back, were it taken or not.
+        String full = people(3) + fruits(2) + "pair a b; quarrel a c; hold 1; time 2; laugh 0; pick 5; fall front; turns;";
+        for (String before : new String[] {full, full + "^boy", full, full, "hold 1 + not ^boy"}) {
+            check.read(row, before, before.indexOf('^') < 0 ? 0 : 1);
+            check.read(row, people(3), 0);
+            counts = new int[] {3, 0, 3, -1, 0, 3, 0, 0, 0, 0, 0};
+            for (int i = 0; i < counts.length; i++) check.due("count(" + i + ")", row.count(i), counts[i]);
+            check.due("chance", row.chance(0, 1, 0), 8);
+            check.due("seconds", row.seconds(0, 1, 0), 9);
+            check.due("laughs", row.laughs(0), 7);
+            check.due("orders", row.orders(), 6);
+            check.due("even", row.even(1), 3);
+            check.due("best", row.best(), -1);
+        }
     }
 
     private static void anew(Check check) {

@@ -237,6 +237,10 @@ public final class EdgePassTest {
         dueMean(check, "c b a", row, -1, -1);
         row.out(0, true);
         dueMean(check, "c b", row, 10, 1);
+        ChinRow steps = check.told("man a plain tall 10 neck 1; man b plain tall 30 neck 2; man c plain tall 35 neck 3; hold 10; time step + neck;");
+        dueMean(check, "by steps and necks", steps, 22 + 8, 1);
+        steps.change(0, 2);
+        dueMean(check, "the other way", steps, 7 + 21, 1);
     }
 
     private static void bothLaws(Check check) {

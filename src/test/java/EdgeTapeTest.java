@@ -46,6 +46,12 @@ public final class EdgeTapeTest {
         check.read("^" + "1".repeat(1000), 1);
         check.read("^" + ";".repeat(1000), 1);
         check.read(blanks(1000), 0);
+        String law = TWO + "time 7" + "+1-1".repeat(234);
+        law += blanks(999 - law.length()) + ";";
+        for (int i = 0; i < 4; i++) { // one that fills the tape leaves room for the next one
+            check.read(row, law, 0);
+            check.due("seconds by a law that fills the tape", row.seconds(0, 1, 0), 7);
+        }
     }
 
     private static void whichSigns(Check check) {
