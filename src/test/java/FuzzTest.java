@@ -35,7 +35,7 @@ public final class FuzzTest {
 
     private void readOnly() {
         while (calls < 300) {
-            feed(random.nextInt(3) == 0 ? texts.heap() : texts.spoilt(texts.party()));
+            feed(random.nextInt(3) == 0 ? texts.heap() : texts.spoilt(random.nextInt(20) == 0 ? " " : texts.party()));
             party();
             calls += 30;
         }

@@ -131,7 +131,7 @@ final class Texts {
     }
 
     private String swapped(String text, String token) {
-        String[] tokens = text.split(" ");
+        String[] tokens = text.split(" ", -1); // blanks alone would give no token at all otherwise
         tokens[random.nextInt(tokens.length)] = random.nextInt(3) == 0 ? tokens[random.nextInt(tokens.length)] : token;
         return String.join(" ", tokens);
     }
